@@ -745,8 +745,7 @@ public final class HotMetalShop {
         for (int part = 0; part < PART_COUNT; part++) {
             int held = 0;
             for (int i = 0; i < cast.size(); i++) {
-                Slug slug = cast.get(i);
-                held += slug.there ? slug.parts[part] : 0;
+                held += cast.get(i).holds(part);
             }
             if (held != stock.amount(SLUGS, part)) {
                 return false;
@@ -1157,6 +1156,11 @@ public final class HotMetalShop {
                 due[place] = sign;
                 widths[place] = width;
             }
+        }
+
+        /** How much of a part of the metal it holds, as long as it is there. */
+        int holds(int part) {
+            return there && part >= 0 && part < parts.length ? parts[part] : 0;
         }
 
         boolean isFilled() {

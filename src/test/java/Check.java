@@ -63,7 +63,7 @@ final class Check {
         }
     }
 
-    /** The call must throw just this class: a class below it would be thrown by the machine itself. */
+    /** The call must throw just this class, and by a throw of the shop's own: neither the machine nor the library may. */
     static void refused(String what, Class<? extends RuntimeException> kind, Body call) {
         try {
             call.run();
@@ -71,9 +71,17 @@ final class Check {
             if (e.getClass() != kind) {
                 fault(what + ": due is " + kind.getSimpleName() + ", thrown " + e);
             }
+            if (!isThrownIn(HotMetalShop.class, e)) {
+                fault(what + ": thrown outside the shop's own code: " + e);
+            }
             return;
         }
         fault(what + ": due is " + kind.getSimpleName() + ", nothing thrown");
+    }
+
+    static boolean isThrownIn(Class<?> program, RuntimeException e) {
+        StackTraceElement[] calls = e.getStackTrace();
+        return calls.length == 0 || calls[0].getClassName().equals(program.getName());
     }
 
     static void fault(String text) {

@@ -286,11 +286,8 @@ final class LineTests {
         Check.sign("home", 'm', shop.placeOf(2));
     }
 
-    private static void sendRunsHome() {
-        HotMetalShop shop = Shops.with("d", 2, 12);
-        Shops.line(shop, " dd");
-        shop.tick(7);
-        shop.send();
+    /** The matrices 0 and 1, the letters of a line that has just been left, come home 5 and 6 ticks later. */
+    private static void seeHome(HotMetalShop shop) {
         shop.tick(4);
         Check.sign("0 runs", 'r', shop.placeOf(0));
         shop.tick(1);
@@ -298,6 +295,14 @@ final class LineTests {
         Check.sign("1 runs", 'r', shop.placeOf(1));
         shop.tick(1);
         Check.sign("1 is home", 'm', shop.placeOf(1));
+    }
+
+    private static void sendRunsHome() {
+        HotMetalShop shop = Shops.with("d", 2, 12);
+        Shops.line(shop, " dd");
+        shop.tick(7);
+        shop.send();
+        seeHome(shop);
     }
 
     private static void sendWedges() {
@@ -321,13 +326,7 @@ final class LineTests {
         Check.same("wear", 0, shop.wearOf(0));
         Check.same("slugs", 0, shop.slugs());
         Check.text("metal", "30 30 240", Shops.metal(shop, 'p'));
-        shop.tick(4);
-        Check.sign("0 runs", 'r', shop.placeOf(0));
-        shop.tick(1);
-        Check.sign("0 is home", 'm', shop.placeOf(0));
-        Check.sign("1 runs", 'r', shop.placeOf(1));
-        shop.tick(1);
-        Check.sign("1 is home", 'm', shop.placeOf(1));
+        seeHome(shop);
         Shops.line(shop, "db");
         Check.refused("b falls", Shops.UNSUPPORTED, shop::drop);
         Check.same("nothing was dropped", 2, shop.signs());

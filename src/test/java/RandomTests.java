@@ -325,7 +325,8 @@ final class RandomTests {
         try {
             return String.valueOf(call.get());
         } catch (RuntimeException e) {
-            return "throws." + e.getClass().getSimpleName();
+            boolean isOwn = Check.isThrownIn(HotMetalShop.class, e) || Check.isThrownIn(PlainShop.class, e);
+            return (isOwn ? "throws." : "the machine throws.") + e.getClass().getSimpleName();
         }
     }
 }

@@ -17,6 +17,7 @@ final class SlugTests {
         Check.test("43: goodShare", SlugTests::goodShare);
         Check.test("44: meanWear", SlugTests::meanWear);
         Check.test("45: isSound on the way", SlugTests::isSound);
+        Check.test("45: isSound sees what no call can do", SlugTests::isNotSound);
     }
 
     /** A shop with so many slugs of "dda", cast by hand. */
@@ -276,5 +277,33 @@ final class SlugTests {
         shop.send();
         shop.melt(shop.slugs() - 1);
         Check.yes("melted", shop.isSound());
+    }
+
+    /** No call makes a shop unsound, so the test reaches into it, undoes it, and looks again. */
+    private static void isNotSound() {
+        HotMetalShop shop = withSlugs(2);
+        Object magazine = Inside.of(shop, "magazine");
+        Object stock = Inside.of(shop, "stock");
+        Object slug = ((java.util.List<?>) Inside.of(shop, "cast")).get(1);
+        spoil(shop, "a matrix is in no place", Inside.of(magazine, "lengths"), 0, -1);
+        spoil(shop, "a matrix is in two places", Inside.of(magazine, "places"), 7, 'r' - 'm');
+        spoil(shop, "less was fed", Inside.of(stock, "fed"), 2, -1);
+        spoil(shop, "tin was fed", Inside.of(stock, "fed"), 0, 1);
+        spoil(shop, "a slug holds other metal", Inside.of(slug, "parts"), 0, 1);
+        spoil(shop, "a slug holds other metal", Inside.of(slug, "parts"), 2, 1);
+        spoil(shop, "a slug is too wide", Inside.of(slug, "widths"), 0, 1);
+        spoil(shop, "a slug is too narrow", Inside.of(slug, "widths"), 0, -1);
+        spoil(shop, "a slug reads otherwise", Inside.of(slug, "reading"), 0, 1);
+        spoil(shop, "a slug had another matrix", Inside.of(slug, "matrices"), 2, 4);
+        shop.melt(1);
+        java.lang.reflect.Array.setChar(Inside.of(slug, "reading"), 0, 'j');
+        Check.yes("a melted slug is not there", shop.isSound());
+    }
+
+    private static void spoil(HotMetalShop shop, String what, Object row, int index, int by) {
+        Check.yes("ahead of it", shop.isSound());
+        Inside.add(row, index, by);
+        Check.no(what, shop.isSound());
+        Inside.add(row, index, -by);
     }
 }
