@@ -6,12 +6,22 @@ public final class AllTests {
     public static void main(String[] args) {
         FaceTests.run();
         MatrixTests.run();
+        MatrixRefusals.run();
         LineTests.run();
+        LineRefusals.run();
         PotTests.run();
+        PotRefusals.run();
         CopyTests.run();
-        ProofTests.run();
+        CopyRefusals.run();
         SlugTests.run();
+        SlugRefusals.run();
+        LineTerms.run();
+        RunningTerms.run();
+        SettingTerms.run();
+        ProofTerms.run();
+        ExceptionTerms.run();
         RandomTests.run();
+        DocTests.run();
         Check.end();
     }
 }

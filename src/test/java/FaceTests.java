@@ -1,11 +1,7 @@
-import java.io.IOException;
-import java.io.UncheckedIOException;
 import java.lang.reflect.Executable;
 import java.lang.reflect.Field;
 import java.lang.reflect.Method;
 import java.lang.reflect.Modifier;
-import java.nio.file.Files;
-import java.nio.file.Path;
 import java.util.Arrays;
 import java.util.Set;
 import java.util.TreeSet;
@@ -14,8 +10,8 @@ import java.util.regex.Pattern;
 
 /** The public face as ../shared/DOC.md writes it, and rules of ../shared/LANGUAGE.md that a text can show. */
 final class FaceTests {
-    private static final Path DOC = Path.of("../shared/DOC.md");
-    private static final Path SOURCE = Path.of("src/main/java/HotMetalShop.java");
+    private static final String DOC = "../shared/DOC.md";
+    private static final String SOURCE = "src/main/java/HotMetalShop.java";
 
     private FaceTests() {
     }
@@ -28,7 +24,7 @@ final class FaceTests {
 
     private static void methods() {
         Set<String> due = new TreeSet<>();
-        Matcher lines = Pattern.compile("(?m)^ {4}public ([^;]*\\([^;]*);$").matcher(read(DOC));
+        Matcher lines = Pattern.compile("(?m)^ {4}public ([^;]*\\([^;]*);$").matcher(Check.read(DOC));
         while (lines.find()) {
             due.add(lines.group(1));
         }
@@ -90,21 +86,13 @@ final class FaceTests {
     }
 
     private static void source() {
-        String code = read(SOURCE).replaceAll("(?s)/\\*.*?\\*/", "").replaceAll("//[^\n]*", "");
+        String code = Check.read(SOURCE).replaceAll("(?s)/\\*.*?\\*/", "").replaceAll("//[^\n]*", "");
         for (String out : Arrays.asList("->", "::", "Exact(", "import java.util.*", "@")) {
             Check.no("source has " + out, code.contains(out));
         }
         for (String out : Arrays.asList("catch", "try", "finally", "synchronized", "assert", "package", "System\\.out",
                 "instanceof", "equals", "hashCode", "toString", "Random", "Thread")) {
             Check.no("source has " + out, Pattern.compile("\\b" + out + "\\b").matcher(code).find());
-        }
-    }
-
-    private static String read(Path file) {
-        try {
-            return Files.readString(file);
-        } catch (IOException e) {
-            throw new UncheckedIOException(e);
         }
     }
 }

@@ -1,28 +1,28 @@
-/** Promises 1 to 11: a new shop, and its matrices. */
+/** Promises 1 to 11: a new shop, and what the calls about its matrices answer. */
 final class MatrixTests {
     private MatrixTests() {
     }
 
     static void run() {
-        Check.test("1: a new shop has no matrices, an empty pot, and the tick 0", MatrixTests::newShop);
-        Check.test("2: addMatrices puts matrices behind the others", MatrixTests::addMatrices);
-        Check.test("2: addMatrices keeps to 12 in a channel and 60 in all", MatrixTests::addMatricesLimits);
-        Check.test("2: addMatrices counts only what lies in the channel", MatrixTests::addMatricesWhileOthersAreOut);
-        Check.test("3: letterOf", MatrixTests::letterOf);
-        Check.test("4: placeOf on the whole way round", MatrixTests::placeOf);
-        Check.test("5: channelOf", MatrixTests::channelOf);
-        Check.test("5: a matrix with a wear of 9 goes astray", MatrixTests::astray);
-        Check.test("5: j goes astray behind a", MatrixTests::astrayFromTheLast);
-        Check.test("6: wearOf grows by sending alone", MatrixTests::wearOf);
-        Check.test("7: mend", MatrixTests::mend);
-        Check.test("8: channel counts", MatrixTests::channel);
-        Check.test("9: front", MatrixTests::front);
-        Check.test("9: matrices come home by their ticks, then by their numbers", MatrixTests::orderHome);
-        Check.test("10: clear brings others home", MatrixTests::clear);
-        Check.test("10: clear keeps what has no room, in its order", MatrixTests::clearWithoutRoom);
-        Check.test("10: clear brings home as many as there is room", MatrixTests::clearWithRoomForOne);
-        Check.test("11: isJammed until a tick begins with room", MatrixTests::isJammed);
-        Check.test("11: what waits falls by its tick, not by its number", MatrixTests::jamOrder);
+        Check.test("1: a shop without matrices, with an empty pot, in the tick 0", MatrixTests::newShop);
+        Check.test("2 returns how many matrices there are in all", MatrixTests::addMatrices);
+        Check.test("2: matrices are added behind the others", MatrixTests::addMatricesBehind);
+        Check.test("2: only what lies in the channel counts for its room", MatrixTests::addMatricesWhileOthersAreOut);
+        Check.test("3 returns the letter", MatrixTests::letterOf);
+        Check.test("4 returns where a matrix is, on its whole way round", MatrixTests::placeOf);
+        Check.test("4 returns 'r' also while it waits for room", MatrixTests::placeOfWaiting);
+        Check.test("5 returns the letter of the channel", MatrixTests::channelOf);
+        Check.test("5 returns another letter for what is astray", MatrixTests::channelOfAstray);
+        Check.test("6 returns the wear, which grows by sending alone", MatrixTests::wearOf);
+        Check.test("7 returns the wear before", MatrixTests::mend);
+        Check.test("7: what is mended stays where it is, and runs to its own channel then", MatrixTests::mendAstray);
+        Check.test("8 returns the number of matrices", MatrixTests::channel);
+        Check.test("9 returns the number of the matrix at the front", MatrixTests::front);
+        Check.test("10 returns how many matrices of other letters were in it", MatrixTests::clear);
+        Check.test("10 returns those, too, that stay without room", MatrixTests::clearWithoutRoom);
+        Check.test("11 returns whether a matrix waits for room", MatrixTests::isJammed);
+        Check.test("11 returns true until a tick begins with room", MatrixTests::isJammedUntilTick);
+        Check.test("11 returns true also when a channel was cleared, until a tick begins", MatrixTests::isJammedCleared);
     }
 
     private static void newShop() {
@@ -38,46 +38,37 @@ final class MatrixTests {
         Check.same("wished heat", 280, shop.setHeat(280));
         Check.same("signs", 0, shop.signs());
         Check.same("wanting", 30, shop.wanting());
+        Check.same("measure", 30, shop.setMeasure(30));
         Check.same("slugs", 0, shop.slugs());
         Check.same("ems", 0, shop.ems());
         Check.no("isJammed", shop.isJammed());
         Check.yes("isSound", shop.isSound());
-        Check.refused("letterOf(0)", Shops.INDEX, () -> shop.letterOf(0));
-        Check.refused("causeOf(0)", Shops.INDEX, () -> shop.causeOf(0));
+        Check.refused(shop, "no matrix", Shops.INDEX, () -> shop.letterOf(0));
+        Check.refused(shop, "no paragraph", Shops.INDEX, () -> shop.causeOf(0));
+        Check.refused(shop, "no slug", Shops.INDEX, () -> shop.isThere(0));
+        Check.refused(shop, "no copy", Shops.UNSUPPORTED, shop::compose);
+        Check.same("the copy is empty", 1, shop.type('a'));
     }
 
     private static void addMatrices() {
         HotMetalShop shop = new HotMetalShop();
         Check.same("first", 2, shop.addMatrices('c', 2));
-        Check.same("second", 3, shop.addMatrices('a', 1));
-        Check.same("third", 5, shop.addMatrices('c', 2));
-        Check.same("wear", 0, shop.wearOf(4));
-        Check.text("c", "0 1 3 4", Shops.order(shop, 'c'));
-        Check.text("a", "2", Shops.order(shop, 'a'));
+        Check.same("another letter", 3, shop.addMatrices('a', 1));
+        shop.key('a');
+        Check.same("one that is out counts", 4, shop.addMatrices('a', 1));
+        Check.same("12 at once", 16, shop.addMatrices('j', 12));
     }
 
-    private static void addMatricesLimits() {
+    private static void addMatricesBehind() {
         HotMetalShop shop = new HotMetalShop();
-        for (char wrong : Shops.NO_LETTERS) {
-            Check.refused("letter " + (int) wrong, Shops.ARGUMENT, () -> shop.addMatrices(wrong, 1));
-        }
-        for (int wrong : new int[] {0, 13, -1, Integer.MAX_VALUE, Integer.MIN_VALUE}) {
-            Check.refused("many " + wrong, Shops.ARGUMENT, () -> shop.addMatrices('a', wrong));
-        }
-        shop.addMatrices('a', 11);
-        Check.refused("13 in a", Shops.STATE, () -> shop.addMatrices('a', 2));
-        Check.same("nothing was added", 11, shop.channel('a'));
-        Check.same("12 in a", 12, shop.addMatrices('a', 1));
-        for (char letter = 'b'; letter <= 'd'; letter++) {
-            shop.addMatrices(letter, 12);
-        }
-        shop.addMatrices('j', 11);
-        Check.refused("61 in all", Shops.STATE, () -> shop.addMatrices('e', 2));
-        Check.same("60 in all", 60, shop.addMatrices('e', 1));
-        Check.refused("61 in all", Shops.STATE, () -> shop.addMatrices('f', 1));
-        Check.refused("the number is looked at first", Shops.ARGUMENT, () -> shop.addMatrices('a', 13));
-        Check.refused("the letter is looked at first", Shops.ARGUMENT, () -> shop.addMatrices('k', 1));
-        Check.refused("no matrix 60", Shops.INDEX, () -> shop.letterOf(60));
+        shop.addMatrices('c', 2);
+        shop.addMatrices('a', 1);
+        shop.addMatrices('c', 2);
+        Check.text("c", "0 1 3 4", Shops.order(shop, 'c'));
+        Check.text("a", "2", Shops.order(shop, 'a'));
+        HotMetalShop other = Shops.astray();
+        other.addMatrices('e', 1);
+        Check.text("behind those that are astray", "0 1 2", Shops.order(other, 'e'));
     }
 
     private static void addMatricesWhileOthersAreOut() {
@@ -85,7 +76,7 @@ final class MatrixTests {
         shop.addMatrices('a', 12);
         shop.key('a');
         Check.same("one more", 13, shop.addMatrices('a', 1));
-        Check.refused("full again", Shops.STATE, () -> shop.addMatrices('a', 1));
+        Check.same("12 again", 12, shop.channel('a'));
     }
 
     private static void letterOf() {
@@ -95,8 +86,8 @@ final class MatrixTests {
         Check.sign("0", 'j', shop.letterOf(0));
         Check.sign("1", 'j', shop.letterOf(1));
         Check.sign("2", 'a', shop.letterOf(2));
-        Check.refused("-1", Shops.INDEX, () -> shop.letterOf(-1));
-        Check.refused("3", Shops.INDEX, () -> shop.letterOf(3));
+        HotMetalShop other = Shops.astray();
+        Check.sign("it keeps its letter in e", 'd', other.letterOf(0));
     }
 
     private static void placeOf() {
@@ -113,59 +104,42 @@ final class MatrixTests {
         Check.sign("still running", 'r', shop.placeOf(0));
         shop.tick(1);
         Check.sign("home", 'm', shop.placeOf(0));
-        Check.refused("-1", Shops.INDEX, () -> shop.placeOf(-1));
-        Check.refused("1", Shops.INDEX, () -> shop.placeOf(1));
+    }
+
+    private static void placeOfWaiting() {
+        HotMetalShop shop = Shops.jammed();
+        Check.sign("a waits", 'r', shop.placeOf(0));
+        Check.sign("j waits behind it", 'r', shop.placeOf(12));
+        Check.sign("another one", 'm', shop.placeOf(13));
     }
 
     private static void channelOf() {
         HotMetalShop shop = new HotMetalShop();
         shop.addMatrices('b', 1);
-        Check.sign("home", 'b', shop.channelOf(0));
+        shop.addMatrices('j', 1);
+        Check.sign("b", 'b', shop.channelOf(0));
+        Check.sign("j", 'j', shop.channelOf(1));
         shop.key('b');
-        Check.refused("falling", Shops.ELEMENT, () -> shop.channelOf(0));
         shop.tick(1);
-        Check.refused("in the line", Shops.ELEMENT, () -> shop.channelOf(0));
         shop.drop();
-        Check.refused("running", Shops.ELEMENT, () -> shop.channelOf(0));
         shop.tick(5);
         Check.sign("home again", 'b', shop.channelOf(0));
-        Check.refused("-1", Shops.INDEX, () -> shop.channelOf(-1));
-        Check.refused("1", Shops.INDEX, () -> shop.channelOf(1));
     }
 
-    private static void astray() {
-        HotMetalShop shop = Shops.with("de", 2, 12);
-        Shops.wear(shop, 8);
-        Check.sign("home with a wear of 8", 'd', shop.channelOf(0));
-        Shops.wear(shop, 1);
-        Check.same("wear", 9, shop.wearOf(0));
-        Check.sign("astray with a wear of 9", 'e', shop.channelOf(0));
-        Check.sign("it keeps its letter", 'd', shop.letterOf(0));
-        Check.same("d is empty", 0, shop.channel('d'));
-        Check.text("behind the others", "2 3 0 1", Shops.order(shop, 'e'));
-        shop.tick(1);
-        shop.drop();
-        shop.tick(8);
-        Check.sign("from e it comes to e again", 'e', shop.channelOf(0));
-    }
-
-    private static void astrayFromTheLast() {
-        HotMetalShop shop = Shops.with("aj", 2, 12);
-        for (int i = 0; i < 9; i++) {
-            Shops.line(shop, "j j ");
-            shop.send();
-            shop.tick(6);
-        }
-        Check.sign("astray", 'a', shop.channelOf(2));
-        Check.text("behind the others", "0 1 2 3", Shops.order(shop, 'a'));
+    private static void channelOfAstray() {
+        HotMetalShop shop = Shops.astray();
+        Check.sign("astray", 'e', shop.channelOf(0));
+        shop.clear('e');
+        Check.sign("cleared", 'd', shop.channelOf(0));
     }
 
     private static void wearOf() {
         HotMetalShop shop = Shops.with("d", 3, 12);
+        Check.same("new", 0, shop.wearOf(0));
         Shops.line(shop, "d d");
         shop.drop();
-        Check.same("dropped", 0, shop.wearOf(0));
         shop.tick(6);
+        Check.same("dropped", 0, shop.wearOf(0));
         Shops.line(shop, "d d");
         shop.send();
         Check.same("sent", 1, shop.wearOf(2));
@@ -176,30 +150,27 @@ final class MatrixTests {
         Shops.line(shop, "d d");
         Check.same("squirts", -1, shop.send());
         Check.same("sent without a slug", 1, shop.wearOf(1));
-        Check.refused("-1", Shops.INDEX, () -> shop.wearOf(-1));
-        Check.refused("3", Shops.INDEX, () -> shop.wearOf(3));
+        Check.same("sent twice", 2, shop.wearOf(2));
     }
 
     private static void mend() {
-        HotMetalShop shop = Shops.with("de", 2, 12);
-        Shops.wear(shop, 9);
+        HotMetalShop shop = Shops.astray();
         Check.same("wear before", 9, shop.mend(0));
         Check.same("wear then", 0, shop.wearOf(0));
         Check.same("mended twice", 0, shop.mend(0));
         Check.same("another one", 9, shop.wearOf(1));
-        Check.sign("it stays where it is", 'e', shop.channelOf(0));
-        Check.text("order", "2 3 0 1", Shops.order(shop, 'e'));
-        Check.refused("falling", Shops.UNSUPPORTED, () -> shop.mend(1));
+    }
+
+    private static void mendAstray() {
+        HotMetalShop shop = Shops.astray();
+        shop.mend(1);
+        Check.sign("it stays where it is", 'e', shop.channelOf(1));
+        Check.text("in its place", "0 1", Shops.order(shop, 'e'));
         shop.tick(1);
-        Check.refused("in the line", Shops.UNSUPPORTED, () -> shop.mend(1));
         shop.drop();
-        Check.refused("running", Shops.UNSUPPORTED, () -> shop.mend(1));
-        Check.same("nothing was mended", 9, shop.wearOf(1));
-        shop.tick(8);
-        Check.sign("a mended one runs home", 'd', shop.channelOf(0));
-        Check.sign("another one goes astray", 'e', shop.channelOf(1));
-        Check.refused("-1", Shops.INDEX, () -> shop.mend(-1));
-        Check.refused("4", Shops.INDEX, () -> shop.mend(4));
+        shop.tick(6);
+        Check.sign("the mended one", 'd', shop.channelOf(1));
+        Check.sign("the other one", 'e', shop.channelOf(0));
     }
 
     private static void channel() {
@@ -211,128 +182,79 @@ final class MatrixTests {
         Check.same("b", 0, shop.channel('b'));
         shop.key('a');
         Check.same("a without one", 2, shop.channel('a'));
-        for (char wrong : Shops.NO_LETTERS) {
-            Check.refused("letter " + (int) wrong, Shops.ARGUMENT, () -> shop.channel(wrong));
-        }
+        Check.same("those of other letters, too", 2, Shops.astray().channel('e'));
     }
 
     private static void front() {
         HotMetalShop shop = new HotMetalShop();
-        Check.refused("empty", Shops.ELEMENT, () -> shop.front('a'));
+        shop.addMatrices('j', 1);
         shop.addMatrices('a', 2);
-        Check.same("front", 0, shop.front('a'));
-        Check.same("it is only looked at", 0, shop.front('a'));
+        Check.same("front", 1, shop.front('a'));
+        Check.same("it is only looked at", 1, shop.front('a'));
         shop.key('a');
-        Check.same("next", 1, shop.front('a'));
-        shop.key('a');
-        Check.refused("empty again", Shops.ELEMENT, () -> shop.front('a'));
-        for (char wrong : Shops.NO_LETTERS) {
-            Check.refused("letter " + (int) wrong, Shops.ARGUMENT, () -> shop.front(wrong));
-        }
-    }
-
-    /** A shop whose channel a holds 2 3 0 1, in the tick 6. */
-    private static HotMetalShop turned() {
-        HotMetalShop shop = new HotMetalShop();
-        shop.addMatrices('a', 4);
-        Shops.line(shop, "aa");
-        shop.drop();
-        shop.tick(6);
-        return shop;
-    }
-
-    private static void orderHome() {
-        HotMetalShop shop = turned();
-        Shops.line(shop, "aa");
-        shop.drop();
-        shop.tick(1);
-        shop.key('a');
-        shop.drop();
-        shop.tick(5);
-        // 2 came in the tick 11, 3 and 0 in the tick 12
-        Check.text("order", "1 2 0 3", Shops.order(shop, 'a'));
+        Check.same("next", 2, shop.front('a'));
+        Check.same("j", 0, shop.front('j'));
+        Check.same("another letter's", 0, Shops.astray().front('e'));
     }
 
     private static void clear() {
-        HotMetalShop shop = Shops.with("de", 2, 12);
-        Shops.wear(shop, 9);
+        HotMetalShop shop = Shops.astray();
+        shop.addMatrices('e', 2);
         Check.same("d is empty", 0, shop.clear('d'));
         Check.same("two of d are in e", 2, shop.clear('e'));
         Check.same("none then", 0, shop.clear('e'));
-        Check.sign("home", 'd', shop.channelOf(1));
+        Check.same("none in d", 0, shop.clear('d'));
         Check.text("e", "2 3", Shops.order(shop, 'e'));
         Check.text("d", "0 1", Shops.order(shop, 'd'));
-        for (char wrong : Shops.NO_LETTERS) {
-            Check.refused("letter " + (int) wrong, Shops.ARGUMENT, () -> shop.clear(wrong));
-        }
-    }
-
-    /** A shop whose channel e holds 0 1 2 3, of which 0 and 1 are of d. */
-    private static HotMetalShop othersInFront() {
-        HotMetalShop shop = Shops.with("de", 2, 12);
-        Shops.wear(shop, 9);
-        Shops.line(shop, "ee");
-        shop.tick(1);
-        shop.drop();
-        shop.tick(6);
-        return shop;
     }
 
     private static void clearWithoutRoom() {
-        HotMetalShop shop = othersInFront();
+        HotMetalShop shop = Shops.astray();
         shop.addMatrices('d', 12);
         Check.same("two of d are in e", 2, shop.clear('e'));
-        Check.same("they stay", 4, shop.channel('e'));
-        Check.sign("they stay", 'e', shop.channelOf(0));
-        Check.text("e", "0 1 2 3", Shops.order(shop, 'e'));
-    }
-
-    private static void clearWithRoomForOne() {
-        HotMetalShop shop = othersInFront();
-        shop.addMatrices('d', 11);
-        Check.same("two of d are in e", 2, shop.clear('e'));
-        Check.text("e", "1 2 3", Shops.order(shop, 'e'));
-        Check.text("d", "4 5 6 7 8 9 10 11 12 13 14 0", Shops.order(shop, 'd'));
+        Check.same("and stay", 2, shop.clear('e'));
+        Check.sign("and stay", 'e', shop.channelOf(0));
     }
 
     private static void isJammed() {
-        HotMetalShop shop = new HotMetalShop();
-        shop.addMatrices('a', 12);
-        shop.addMatrices('j', 1);
-        Shops.line(shop, "aj");
+        HotMetalShop shop = Shops.with("a", 12, 12);
+        shop.key('a');
         shop.addMatrices('a', 1);
         shop.drop();
+        Check.no("it runs", shop.isJammed());
         shop.tick(4);
         Check.no("it is not due", shop.isJammed());
         shop.tick(1);
-        Check.yes("a is full", shop.isJammed());
-        Check.sign("it waits", 'r', shop.placeOf(0));
+        Check.yes("it is due, and a is full", shop.isJammed());
         shop.tick(1);
-        Check.sign("j waits behind it", 'r', shop.placeOf(12));
-        Check.same("j has room", 0, shop.channel('j'));
-        shop.key('a');
-        Check.yes("until a tick begins", shop.isJammed());
-        shop.tick(1);
-        Check.no("with room", shop.isJammed());
-        Check.sign("a is home", 'm', shop.placeOf(0));
-        Check.sign("j is home", 'm', shop.placeOf(12));
-        Check.text("a", "2 3 4 5 6 7 8 9 10 11 13 0", Shops.order(shop, 'a'));
+        Check.yes("a is still full", shop.isJammed());
     }
 
-    private static void jamOrder() {
-        HotMetalShop shop = turned();
-        Shops.line(shop, "aaaa");
-        shop.addMatrices('a', 12);
+    private static void isJammedUntilTick() {
+        HotMetalShop shop = Shops.jammed();
+        Check.yes("a is full", shop.isJammed());
+        shop.key('a');
+        Check.yes("no tick has begun", shop.isJammed());
+        shop.tick(1);
+        Check.no("a tick began with room", shop.isJammed());
+    }
+
+    private static void isJammedCleared() {
+        HotMetalShop shop = Shops.astray();
+        // e is filled, and the matrices 0 and 1 of d, in the line, have no room there when they come
+        Shops.line(shop, "ee");
+        shop.addMatrices('e', 12);
+        shop.tick(1);
         shop.drop();
-        shop.tick(20);
-        Check.yes("all wait", shop.isJammed());
-        Shops.line(shop, "aaa");
+        shop.tick(6);
+        Check.yes("e is full", shop.isJammed());
+        Check.same("e holds its own", 0, shop.clear('e'));
+        shop.key('e');
+        shop.clear('e');
+        Check.yes("no tick has begun", shop.isJammed());
         shop.tick(1);
-        Check.yes("one waits", shop.isJammed());
-        Check.sign("the last one", 'r', shop.placeOf(1));
-        Shops.line(shop, "a");
-        shop.tick(1);
-        Check.no("none waits", shop.isJammed());
-        Check.text("a", "8 9 10 11 12 13 14 15 2 3 0 1", Shops.order(shop, 'a'));
+        Check.yes("room for one", shop.isJammed());
+        Check.sign("0 is home", 'm', shop.placeOf(0));
+        Check.sign("1 waits", 'r', shop.placeOf(1));
     }
 }

@@ -7,6 +7,8 @@ import java.util.function.Supplier;
 final class RandomTests {
     private static final int CALLS = 512;
     private static final int RUNS = 3000;
+    // To tell a shop's whole state takes longer than a call, so just the first runs look at it.
+    private static final int RUNS_WITH_STATE = 200;
 
     private final Random random;
     private final HotMetalShop shop = new HotMetalShop();
@@ -15,11 +17,13 @@ final class RandomTests {
     private final int[] weights = new int[12];
     private final StringBuilder told = new StringBuilder();
     private final Set<String> seen;
+    private final boolean looksAtState;
     private int calls;
     private boolean differs;
 
     private RandomTests(long seed, Set<String> seen) {
         this.seen = seen;
+        looksAtState = seed <= RUNS_WITH_STATE;
         random = new Random(seed);
         int first = random.nextInt(10);
         int kinds = 1 + random.nextInt(random.nextBoolean() ? 3 : 10);
@@ -298,11 +302,15 @@ final class RandomTests {
         }
         calls++;
         String want = answer(theirs);
+        String before = looksAtState ? Inside.state(shop) : "";
         String got = answer(ours);
         told.append("\n      ").append(call).append(" -> ").append(want);
         if (!want.equals(got)) {
             differs = true;
             told.append(", answered ").append(got);
+        } else if (looksAtState && want.startsWith("throws.") && !before.equals(Inside.state(shop))) {
+            differs = true;
+            told.append(", but has changed the shop");
         }
         note(call, want);
     }

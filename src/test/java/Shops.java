@@ -7,8 +7,6 @@ final class Shops {
     static final Class<java.util.NoSuchElementException> ELEMENT = java.util.NoSuchElementException.class;
     static final Class<ArithmeticException> ARITHMETIC = ArithmeticException.class;
 
-    static final char[] NO_LETTERS = {'`', 'k', 'A', ' ', (char) 0, (char) 255, (char) 65535};
-
     private Shops() {
     }
 
@@ -21,6 +19,11 @@ final class Shops {
         shop.feed(30, 30, 240);
         shop.setMeasure(measure);
         return shop;
+    }
+
+    /** A shop with 6 matrices of each letter. */
+    static HotMetalShop letters(int measure) {
+        return with("abcdefghij", 6, measure);
     }
 
     /** Keys letters and puts wedges, each one in its tick. */
@@ -107,5 +110,46 @@ final class Shops {
             shop.send();
             shop.tick(6);
         }
+    }
+
+    /** A shop at measure 12 with the matrices 0 and 1 of d, both with a wear of 9, so that e holds them, and no others. */
+    static HotMetalShop astray() {
+        HotMetalShop shop = with("d", 2, 12);
+        wear(shop, 9);
+        return shop;
+    }
+
+    /**
+     * A shop at measure 12 in which 12 of a fill their channel, and the matrix 0 of a waits for room. The matrix 12 of j
+     * waits behind it. It is the tick 6.
+     */
+    static HotMetalShop jammed() {
+        HotMetalShop shop = with("a", 12, 12);
+        shop.addMatrices('j', 1);
+        line(shop, "aj");
+        shop.addMatrices('a', 1);
+        shop.drop();
+        shop.tick(6);
+        return shop;
+    }
+
+    /** Cast by hand, so many slugs of "dda", each in no paragraph; the last letters are home. */
+    static HotMetalShop withSlugs(int many) {
+        HotMetalShop shop = with("ad", 4, 12);
+        for (int i = 0; i < many; i++) {
+            line(shop, "dda");
+            shop.send();
+            shop.tick(8);
+        }
+        return shop;
+    }
+
+    /** All matrices of the shop told, in the order of their numbers, by where they are: m, l or r. */
+    static String places(HotMetalShop shop, int matrices) {
+        StringBuilder text = new StringBuilder();
+        for (int i = 0; i < matrices; i++) {
+            text.append(shop.placeOf(i));
+        }
+        return text.toString();
     }
 }

@@ -1,76 +1,77 @@
-/** Promises 33 to 45: slugs, pages and figures. */
+/** Promises 33 to 45: what the calls about slugs, pages and figures answer. */
 final class SlugTests {
     private SlugTests() {
     }
 
     static void run() {
-        Check.test("33: slugs", SlugTests::slugs);
-        Check.test("34: isThere", SlugTests::isThere);
-        Check.test("35, 36: lengthOf and proof", SlugTests::reading);
-        Check.test("37: spaceAt", SlugTests::spaceAt);
-        Check.test("38: isCold below 250", SlugTests::isCold);
-        Check.test("39: hasHairLine from a wear of 6 on", SlugTests::hasHairLine);
-        Check.test("40: melt", SlugTests::melt);
-        Check.test("41: lead", SlugTests::lead);
-        Check.test("41: lead refuses", SlugTests::leadRefuses);
-        Check.test("42: ems", SlugTests::ems);
-        Check.test("43: goodShare", SlugTests::goodShare);
-        Check.test("44: meanWear", SlugTests::meanWear);
-        Check.test("45: isSound on the way", SlugTests::isSound);
-        Check.test("45: isSound sees what no call can do", SlugTests::isNotSound);
-    }
-
-    /** A shop with so many slugs of "dda", cast by hand. */
-    private static HotMetalShop withSlugs(int many) {
-        HotMetalShop shop = Shops.with("ad", 4, 12);
-        for (int i = 0; i < many; i++) {
-            Shops.line(shop, "dda");
-            shop.send();
-            shop.tick(8);
-        }
-        return shop;
+        Check.test("33 returns the number of slugs that were cast", SlugTests::slugs);
+        Check.test("34 returns true if it was not melted", SlugTests::isThere);
+        Check.test("35 returns the number of signs", SlugTests::lengthOf);
+        Check.test("36 returns the letter, or a blank", SlugTests::proof);
+        Check.test("37 returns the width of a wedge as it was cast", SlugTests::spaceAt);
+        Check.test("38 returns true if it is cold", SlugTests::isCold);
+        Check.test("39 returns true if it has a hair line", SlugTests::hasHairLine);
+        Check.test("40 returns how much metal comes back", SlugTests::melt);
+        Check.test("41 returns the height of a lead", SlugTests::lead);
+        Check.test("42 returns the sum of ems", SlugTests::ems);
+        Check.test("43 returns the share of good slugs", SlugTests::goodShare);
+        Check.test("44 returns the mean wear", SlugTests::meanWear);
+        Check.test("45 returns true on the whole way", SlugTests::isSound);
+        Check.test("45 returns false if a matrix is in no place, or in two", SlugTests::unsoundPlaces);
+        Check.test("45 returns false if the metal does not balance", SlugTests::unsoundMetal);
+        Check.test("45 returns false if a slug does not fill", SlugTests::unsoundWidths);
+        Check.test("45 returns false if a slug reads otherwise", SlugTests::unsoundReading);
+        Check.test("45: melted slugs are not looked at", SlugTests::meltedIsNotThere);
     }
 
     private static void slugs() {
-        HotMetalShop shop = withSlugs(2);
-        Check.same("cast", 2, shop.slugs());
+        HotMetalShop shop = new HotMetalShop();
+        Check.same("none", 0, shop.slugs());
+        shop = Shops.withSlugs(2);
+        Check.same("two", 2, shop.slugs());
         shop.melt(0);
         Check.same("melted ones count", 2, shop.slugs());
+        Shops.compose(shop, "d");
+        Check.same("composed ones count", 3, shop.slugs());
         shop.setHeat(350);
         shop.tick(30);
         Shops.line(shop, "dda");
         shop.send();
-        Check.same("squirts do not", 2, shop.slugs());
+        Check.same("squirts do not", 3, shop.slugs());
     }
 
     private static void isThere() {
-        HotMetalShop shop = withSlugs(2);
+        HotMetalShop shop = Shops.withSlugs(2);
         Check.yes("0", shop.isThere(0));
         shop.melt(0);
         Check.no("melted", shop.isThere(0));
         Check.yes("1", shop.isThere(1));
-        Check.refused("-1", Shops.INDEX, () -> shop.isThere(-1));
-        Check.refused("2", Shops.INDEX, () -> shop.isThere(2));
     }
 
-    private static void reading() {
-        HotMetalShop shop = Shops.with("abd", 4, 12);
-        Shops.line(shop, "bd a");
-        shop.tick(1);
-        Check.same("10 and a wedge of 2", 0, shop.send());
-        Check.same("signs", 4, shop.lengthOf(0));
-        Check.text("by the ticks", "d ab", Shops.slug(shop, 0));
-        Check.refused("proof(0, -1)", Shops.INDEX, () -> shop.proof(0, -1));
-        Check.refused("proof(0, 4)", Shops.INDEX, () -> shop.proof(0, 4));
-        Check.refused("proof(-1, 0)", Shops.INDEX, () -> shop.proof(-1, 0));
-        Check.refused("proof(1, 0)", Shops.INDEX, () -> shop.proof(1, 0));
-        Check.refused("lengthOf(-1)", Shops.INDEX, () -> shop.lengthOf(-1));
-        Check.refused("lengthOf(1)", Shops.INDEX, () -> shop.lengthOf(1));
+    private static void lengthOf() {
+        HotMetalShop shop = Shops.with("ad", 4, 12);
+        Shops.line(shop, "dda");
+        shop.send();
+        Shops.line(shop, "a  ");
+        shop.wedge();
+        shop.send();
+        Check.same("letters", 3, shop.lengthOf(0));
+        Check.same("letters and wedges", 4, shop.lengthOf(1));
         shop.melt(0);
-        Check.same("a melted one's signs", 4, shop.lengthOf(0));
-        Check.sign("a melted one reads", 'd', shop.proof(0, 0));
-        Shops.compose(shop, "d");
-        Check.same("quads are not told", 1, shop.lengthOf(1));
+        Check.same("a melted one's", 3, shop.lengthOf(0));
+        Shops.compose(shop, "a a");
+        Check.same("without quads", 3, shop.lengthOf(2));
+    }
+
+    private static void proof() {
+        HotMetalShop shop = Shops.with("ad", 4, 12);
+        Shops.line(shop, "d a ");
+        shop.send();
+        Check.text("reads", "d a ", Shops.slug(shop, 0));
+        shop.melt(0);
+        Check.text("melted", "d a ", Shops.slug(shop, 0));
+        Shops.compose(shop, "a d");
+        Check.text("composed", "a d", Shops.slug(shop, 1));
     }
 
     private static void spaceAt() {
@@ -78,116 +79,62 @@ final class SlugTests {
         Shops.line(shop, "a a a a  ");
         shop.send();
         // 22 are wanting to 8, among 5 wedges
-        int[] widths = {0, 5, 0, 5, 0, 4, 0, 4, 4};
-        for (int i = 0; i < widths.length; i++) {
-            int place = i;
-            if (widths[i] == 0) {
-                Check.refused("letter at " + i, Shops.INDEX, () -> shop.spaceAt(0, place));
-            } else {
-                Check.same("wedge at " + i, widths[i], shop.spaceAt(0, place));
-            }
+        int[][] widths = {{1, 5}, {3, 5}, {5, 4}, {7, 4}, {8, 4}};
+        for (int[] width : widths) {
+            Check.same("wedge at " + width[0], width[1], shop.spaceAt(0, width[0]));
         }
-        Check.refused("place -1", Shops.INDEX, () -> shop.spaceAt(0, -1));
-        Check.refused("place 9", Shops.INDEX, () -> shop.spaceAt(0, 9));
-        Check.refused("slug -1", Shops.INDEX, () -> shop.spaceAt(-1, 1));
-        Check.refused("slug 1", Shops.INDEX, () -> shop.spaceAt(1, 1));
         shop.setMeasure(12);
         Check.same("as it was cast", 5, shop.spaceAt(0, 1));
+        shop.melt(0);
+        Check.same("melted", 5, shop.spaceAt(0, 1));
     }
 
     private static void isCold() {
-        HotMetalShop shop = Shops.with("d", 4, 12);
-        shop.setHeat(200);
-        shop.tick(15);
-        Check.same("heat", 250, shop.heat());
+        HotMetalShop shop = Shops.with("d", 6, 12);
         Shops.line(shop, "d d");
         shop.send();
-        Check.no("at 250", shop.isCold(0));
-        Check.same("paid", 12, shop.ems());
-        shop.setHeat(249);
-        shop.tick(2);
+        Check.no("at 280", shop.isCold(0));
+        shop.setHeat(200);
+        shop.tick(13);
         Check.same("heat", 249, shop.heat());
         Shops.line(shop, "d d");
         shop.send();
         Check.yes("at 249", shop.isCold(1));
-        Check.same("not paid", 12, shop.ems());
-        Check.refused("-1", Shops.INDEX, () -> shop.isCold(-1));
-        Check.refused("2", Shops.INDEX, () -> shop.isCold(2));
+        shop.melt(1);
+        Check.yes("melted", shop.isCold(1));
+        Check.no("the other one", shop.isCold(0));
     }
 
     private static void hasHairLine() {
         HotMetalShop shop = Shops.with("d", 2, 12);
-        Shops.wear(shop, 6);
-        Check.no("with a wear of 5", shop.hasHairLine(5));
-        Check.same("paid", 72, shop.ems());
+        Shops.wear(shop, 7);
+        Check.no("the sixth", shop.hasHairLine(5));
+        Check.yes("the seventh", shop.hasHairLine(6));
+        shop.melt(6);
         shop.mend(0);
-        Shops.wear(shop, 1);
-        Check.yes("with a wear of 6 and one of 0", shop.hasHairLine(6));
-        Check.same("not paid", 72, shop.ems());
         shop.mend(1);
-        Shops.wear(shop, 1);
-        Check.no("mended", shop.hasHairLine(7));
-        Check.same("paid", 84, shop.ems());
-        Check.refused("-1", Shops.INDEX, () -> shop.hasHairLine(-1));
-        Check.refused("8", Shops.INDEX, () -> shop.hasHairLine(8));
+        Check.yes("melted, and its matrices mended", shop.hasHairLine(6));
     }
 
     private static void melt() {
-        HotMetalShop shop = withSlugs(2);
+        HotMetalShop shop = Shops.withSlugs(2);
         Check.text("slugs", "2 2 20", Shops.metal(shop, 's'));
-        Check.same("back", 12, shop.melt(0));
+        Check.same("as much as its measure", 12, shop.melt(0));
         Check.text("slugs", "1 1 10", Shops.metal(shop, 's'));
         Check.text("pot", "29 29 230", Shops.metal(shop, 'p'));
-        Check.refused("melted", Shops.ELEMENT, () -> shop.melt(0));
-        Check.refused("-1", Shops.INDEX, () -> shop.melt(-1));
-        Check.refused("2", Shops.INDEX, () -> shop.melt(2));
         shop.setMeasure(30);
-        Check.same("as much as was cast", 12, shop.melt(1));
-        Shops.compose(shop, "d");
-        Check.refused("in a paragraph", Shops.UNSUPPORTED, () -> shop.melt(2));
-        Check.yes("it is there", shop.isThere(2));
-        Check.same("heat does not change", 275, shop.heat());
+        Check.same("not as the present measure", 12, shop.melt(1));
+        Check.same("heat does not change", 280, shop.heat());
         Check.yes("isSound", shop.isSound());
     }
 
     private static void lead() {
-        HotMetalShop shop = withSlugs(5);
-        int[][] pages = {{12, 0, 0, 0}, {13, 1, 0, 0}, {14, 1, 1, 0}, {15, 1, 1, 1}, {16, 2, 1, 1}, {17, 2, 2, 1}, {18, 2, 2, 2}};
-        for (int[] page : pages) {
-            for (int gap = 0; gap < 3; gap++) {
-                Check.same("height " + page[0] + ", gap " + gap, page[gap + 1], shop.lead(0, 4, page[0], gap));
-            }
-        }
-        Check.same("two slugs", 2, shop.lead(3, 2, 8, 0));
-        Check.same("all slugs", 1, shop.lead(0, 5, 16, 0));
-    }
-
-    private static void leadRefuses() {
-        HotMetalShop shop = withSlugs(5);
-        for (int wrong : new int[] {1, 0, -1, Integer.MIN_VALUE}) {
-            Check.refused("many " + wrong, Shops.ARGUMENT, () -> shop.lead(0, wrong, 3, 0));
-            Check.refused("many " + wrong + " is looked at first", Shops.ARGUMENT, () -> shop.lead(-1, wrong, 3, 0));
-        }
-        Check.refused("6 slugs", Shops.INDEX, () -> shop.lead(0, 6, 18, 0));
-        Check.refused("from -1", Shops.INDEX, () -> shop.lead(-1, 2, 6, 0));
-        Check.refused("from 4", Shops.INDEX, () -> shop.lead(4, 2, 6, 0));
-        Check.refused("from 5", Shops.INDEX, () -> shop.lead(5, 2, 6, 0));
-        for (int far : new int[] {Integer.MAX_VALUE, Integer.MIN_VALUE}) {
-            Check.refused("from " + far, Shops.INDEX, () -> shop.lead(far, 2, 6, 0));
-            Check.refused("height " + far, Shops.ELEMENT, () -> shop.lead(0, 2, far, 0));
-            Check.refused("gap " + far, Shops.UNSUPPORTED, () -> shop.lead(0, 2, 6, far));
-        }
-        Check.refused("many, far", Shops.INDEX, () -> shop.lead(1, Integer.MAX_VALUE, 6, 0));
-        Check.refused("11 of 12", Shops.ELEMENT, () -> shop.lead(0, 4, 11, 0));
-        Check.refused("19 of 18", Shops.ELEMENT, () -> shop.lead(0, 4, 19, 0));
-        Check.refused("the height is looked at first", Shops.ELEMENT, () -> shop.lead(0, 4, 19, 3));
-        Check.refused("gap 3", Shops.UNSUPPORTED, () -> shop.lead(0, 4, 12, 3));
-        Check.refused("gap -1", Shops.UNSUPPORTED, () -> shop.lead(0, 4, 12, -1));
-        shop.melt(3);
-        Check.refused("melted", Shops.ELEMENT, () -> shop.lead(0, 4, 12, 0));
-        Check.refused("melted", Shops.ELEMENT, () -> shop.lead(3, 2, 6, 7));
-        Check.refused("all must be slugs first", Shops.INDEX, () -> shop.lead(3, 3, 9, 0));
-        Check.same("without it", 1, shop.lead(0, 3, 10, 0));
+        HotMetalShop shop = Shops.withSlugs(5);
+        Check.same("none", 0, shop.lead(0, 5, 15, 3));
+        Check.same("1 of 1 0 0 0", 1, shop.lead(0, 5, 16, 0));
+        Check.same("0 of 1 0 0 0", 0, shop.lead(0, 5, 16, 1));
+        Check.same("2", 2, shop.lead(0, 5, 23, 3));
+        Check.same("of other slugs", 1, shop.lead(2, 3, 11, 1));
     }
 
     private static void ems() {
@@ -207,17 +154,7 @@ final class SlugTests {
     }
 
     private static void goodShare() {
-        HotMetalShop shop = withSlugs(0);
-        Check.refused("none", Shops.ARITHMETIC, shop::goodShare);
-        shop.setHeat(350);
-        shop.tick(12);
-        Shops.line(shop, "dda");
-        shop.send();
-        Check.refused("it squirted", Shops.ARITHMETIC, shop::goodShare);
-        shop.setHeat(280);
-        shop.tick(20);
-        Shops.line(shop, "dda");
-        shop.send();
+        HotMetalShop shop = Shops.withSlugs(1);
         Check.number("1 of 1", 1.0f, shop.goodShare());
         shop.setHeat(200);
         shop.tick(30);
@@ -230,17 +167,16 @@ final class SlugTests {
         Check.number("1 of 3", 1.0f / 3.0f, shop.goodShare());
         shop.melt(0);
         Check.number("melted ones count", 1.0f / 3.0f, shop.goodShare());
-        HotMetalShop worn = Shops.with("d", 2, 12);
-        Shops.wear(worn, 8);
-        Check.number("6 of 8", 0.75f, worn.goodShare());
+        HotMetalShop cold = Shops.with("d", 2, 12);
+        cold.setHeat(200);
+        cold.tick(40);
+        Shops.line(cold, "d d");
+        cold.send();
+        Check.number("0 of 1", 0.0f, cold.goodShare());
     }
 
     private static void meanWear() {
-        HotMetalShop shop = new HotMetalShop();
-        Check.refused("none", Shops.ARITHMETIC, shop::meanWear);
-        shop.feed(0, 0, 100);
-        shop.setMeasure(12);
-        shop.addMatrices('d', 3);
+        HotMetalShop shop = Shops.with("d", 3, 12);
         Check.number("0", 0.0, shop.meanWear());
         Shops.line(shop, "d d");
         shop.send();
@@ -252,10 +188,13 @@ final class SlugTests {
         shop.tick(6);
         shop.mend(0);
         Check.number("less by mending", 2.0 / 3.0, shop.meanWear());
+        shop.addMatrices('a', 1);
+        Check.number("2 of 4", 0.5, shop.meanWear());
     }
 
     private static void isSound() {
         HotMetalShop shop = Shops.with("abd", 4, 12);
+        Check.yes("an empty shop", new HotMetalShop().isSound());
         Shops.line(shop, "bd ");
         Check.yes("falling", shop.isSound());
         shop.tick(1);
@@ -270,34 +209,14 @@ final class SlugTests {
         Check.yes("marked", shop.isSound());
         shop.correct(0);
         Check.yes("corrected", shop.isSound());
-        shop.clear('a');
-        Check.yes("cleared", shop.isSound());
-        Shops.ticks(shop, 100);
-        Shops.line(shop, "d d");
-        shop.send();
-        shop.melt(shop.slugs() - 1);
-        Check.yes("melted", shop.isSound());
-    }
-
-    /** No call makes a shop unsound, so the test reaches into it, undoes it, and looks again. */
-    private static void isNotSound() {
-        HotMetalShop shop = withSlugs(2);
-        Object magazine = Inside.of(shop, "magazine");
-        Object stock = Inside.of(shop, "stock");
-        Object slug = ((java.util.List<?>) Inside.of(shop, "cast")).get(1);
-        spoil(shop, "a matrix is in no place", Inside.of(magazine, "lengths"), 0, -1);
-        spoil(shop, "a matrix is in two places", Inside.of(magazine, "places"), 7, 'r' - 'm');
-        spoil(shop, "less was fed", Inside.of(stock, "fed"), 2, -1);
-        spoil(shop, "tin was fed", Inside.of(stock, "fed"), 0, 1);
-        spoil(shop, "a slug holds other metal", Inside.of(slug, "parts"), 0, 1);
-        spoil(shop, "a slug holds other metal", Inside.of(slug, "parts"), 2, 1);
-        spoil(shop, "a slug is too wide", Inside.of(slug, "widths"), 0, 1);
-        spoil(shop, "a slug is too narrow", Inside.of(slug, "widths"), 0, -1);
-        spoil(shop, "a slug reads otherwise", Inside.of(slug, "reading"), 0, 1);
-        spoil(shop, "a slug had another matrix", Inside.of(slug, "matrices"), 2, 4);
-        shop.melt(1);
-        java.lang.reflect.Array.setChar(Inside.of(slug, "reading"), 0, 'j');
-        Check.yes("a melted slug is not there", shop.isSound());
+        Check.yes("jammed", Shops.jammed().isSound());
+        HotMetalShop astray = Shops.astray();
+        Check.yes("astray", astray.isSound());
+        astray.clear('e');
+        Check.yes("cleared", astray.isSound());
+        astray.mend(0);
+        astray.melt(3);
+        Check.yes("melted", astray.isSound());
     }
 
     private static void spoil(HotMetalShop shop, String what, Object row, int index, int by) {
@@ -305,5 +224,56 @@ final class SlugTests {
         Inside.add(row, index, by);
         Check.no(what, shop.isSound());
         Inside.add(row, index, -by);
+        Check.yes("behind it", shop.isSound());
+    }
+
+    // No call makes a shop unsound, so the tests below reach into it, undo it, and look again.
+
+    private static void unsoundPlaces() {
+        HotMetalShop shop = Shops.withSlugs(2);
+        Object magazine = Inside.of(shop, "magazine");
+        spoil(shop, "a matrix is in no place", Inside.of(magazine, "lengths"), 0, -1);
+        spoil(shop, "a matrix is in two places", Inside.of(magazine, "places"), 7, 'r' - 'm');
+        Object channelOfD = java.lang.reflect.Array.get(Inside.of(magazine, "rows"), 3);
+        spoil(shop, "a matrix lies twice, and another one nowhere", channelOfD, 0, 1);
+    }
+
+    private static void unsoundMetal() {
+        HotMetalShop shop = Shops.withSlugs(2);
+        Object stock = Inside.of(shop, "stock");
+        spoil(shop, "less lead was fed", Inside.of(stock, "fed"), 2, -1);
+        spoil(shop, "more tin was fed", Inside.of(stock, "fed"), 0, 1);
+        spoil(shop, "more antimony was fed", Inside.of(stock, "fed"), 1, 1);
+        spoil(shop, "a slug holds more tin", Inside.of(slug(shop, 1), "parts"), 0, 1);
+        spoil(shop, "a slug holds more lead", Inside.of(slug(shop, 1), "parts"), 2, 1);
+    }
+
+    private static Object slug(HotMetalShop shop, int number) {
+        return ((java.util.List<?>) Inside.of(shop, "cast")).get(number);
+    }
+
+    private static void unsoundWidths() {
+        HotMetalShop shop = Shops.withSlugs(2);
+        Shops.compose(shop, "d");
+        spoil(shop, "a slug is too wide", Inside.of(slug(shop, 1), "widths"), 0, 1);
+        spoil(shop, "a slug is too narrow", Inside.of(slug(shop, 1), "widths"), 0, -1);
+        spoil(shop, "quads cannot make it narrower", Inside.of(slug(shop, 2), "widths"), 0, 8);
+        Inside.add(Inside.of(slug(shop, 2), "widths"), 0, -1);
+        Check.yes("quads fill what is narrower", shop.isSound());
+    }
+
+    private static void unsoundReading() {
+        HotMetalShop shop = Shops.withSlugs(2);
+        spoil(shop, "a slug reads otherwise", Inside.of(slug(shop, 1), "reading"), 0, 1);
+        spoil(shop, "a slug had another matrix", Inside.of(slug(shop, 1), "matrices"), 2, 4);
+    }
+
+    private static void meltedIsNotThere() {
+        HotMetalShop shop = Shops.withSlugs(2);
+        shop.melt(1);
+        Inside.add(Inside.of(slug(shop, 1), "reading"), 0, 1);
+        Check.yes("a melted slug's reading", shop.isSound());
+        Inside.add(Inside.of(slug(shop, 1), "widths"), 0, 1);
+        Check.yes("a melted slug's widths", shop.isSound());
     }
 }
