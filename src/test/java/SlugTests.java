@@ -233,7 +233,8 @@ final class SlugTests {
         HotMetalShop shop = Shops.withSlugs(2);
         Object magazine = Inside.of(shop, "magazine");
         spoil(shop, "a matrix is in no place", Inside.of(magazine, "lengths"), 0, -1);
-        spoil(shop, "a matrix is in two places", Inside.of(magazine, "places"), 7, 'r' - 'm');
+        spoil(shop, "the first matrix is in two places", Inside.of(magazine, "places"), 0, 'r' - 'm');
+        spoil(shop, "the last matrix is in two places", Inside.of(magazine, "places"), 7, 'r' - 'm');
         Object channelOfD = java.lang.reflect.Array.get(Inside.of(magazine, "rows"), 3);
         spoil(shop, "a matrix lies twice, and another one nowhere", channelOfD, 0, 1);
     }
@@ -255,6 +256,7 @@ final class SlugTests {
     private static void unsoundWidths() {
         HotMetalShop shop = Shops.withSlugs(2);
         Shops.compose(shop, "d");
+        spoil(shop, "the first slug is too wide", Inside.of(slug(shop, 0), "widths"), 0, 1);
         spoil(shop, "a slug is too wide", Inside.of(slug(shop, 1), "widths"), 0, 1);
         spoil(shop, "a slug is too narrow", Inside.of(slug(shop, 1), "widths"), 0, -1);
         spoil(shop, "quads cannot make it narrower", Inside.of(slug(shop, 2), "widths"), 0, 8);
@@ -264,6 +266,7 @@ final class SlugTests {
 
     private static void unsoundReading() {
         HotMetalShop shop = Shops.withSlugs(2);
+        spoil(shop, "the first slug reads otherwise", Inside.of(slug(shop, 0), "reading"), 2, 1);
         spoil(shop, "a slug reads otherwise", Inside.of(slug(shop, 1), "reading"), 0, 1);
         spoil(shop, "a slug had another matrix", Inside.of(slug(shop, 1), "matrices"), 2, 4);
     }
