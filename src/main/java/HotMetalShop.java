@@ -894,7 +894,7 @@ public final class HotMetalShop {
             return next;
         }
 
-        /** Brings the matrices of other letters home, as far as there is room, and tells how many of them there were. */
+        /** Brings the matrices of other letters home, as far as there is room, and tells how many there were. */
         int sortOut(int channel) {
             if (!isChannel(channel)) {
                 return 0;

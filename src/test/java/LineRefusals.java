@@ -13,9 +13,12 @@ final class LineRefusals {
         Check.test("16 throws IndexOutOfBoundsException: no such sign", LineRefusals::noSign);
         Check.test("18 throws UnsupportedOperationException: the line is empty", LineRefusals::sendNothing);
         Check.test("18 throws UnsupportedOperationException: something falls", LineRefusals::sendFalling);
-        Check.test("18 throws UnsupportedOperationException: it does not fill, without a wedge", LineRefusals::sendLetters);
-        Check.test("18 throws UnsupportedOperationException: it does not fill, with a wedge", LineRefusals::sendOneWedge);
-        Check.test("18 throws UnsupportedOperationException: it does not fill, with wedges", LineRefusals::sendThreeWedges);
+        Check.test("18 throws UnsupportedOperationException: it does not fill, without a wedge",
+                LineRefusals::sendLetters);
+        Check.test("18 throws UnsupportedOperationException: it does not fill, with a wedge",
+                LineRefusals::sendOneWedge);
+        Check.test("18 throws UnsupportedOperationException: it does not fill, with wedges",
+                LineRefusals::sendThreeWedges);
         Check.test("18 throws IllegalStateException: less metal than the measure", LineRefusals::sendWithoutMetal);
         Check.test("18 throws IllegalStateException: just the pot counts", LineRefusals::sendWithMetalElsewhere);
         Check.test("19 throws UnsupportedOperationException: something falls", LineRefusals::dropFalling);

@@ -8,11 +8,13 @@ final class LineTerms {
                 LineTerms::onePlaceAndBalance);
         Check.test("Terms: There are 10 letters", LineTerms::tenLetters);
         Check.test("Terms: The width of the letter number k is 2 plus k modulo 4", LineTerms::widths);
-        Check.test("Terms: Each letter has a channel, with at most 12 matrices in an order", LineTerms::channelsInOrder);
+        Check.test("Terms: Each letter has a channel, with at most 12 matrices in an order",
+                LineTerms::channelsInOrder);
         Check.test("Terms: At most 60 matrices are numbered from 0", LineTerms::sixtyMatrices);
         Check.test("Terms: A key lets the front matrix of the channel of its letter fall - whatever letter it is of",
                 LineTerms::keyOfAstray);
-        Check.test("Terms: A key lets the front matrix of the channel of its letter fall - modulo 3", LineTerms::delays);
+        Check.test("Terms: A key lets the front matrix of the channel of its letter fall - modulo 3",
+                LineTerms::delays);
         Check.test("Terms: A wedge comes at once", LineTerms::wedgeAtOnce);
         Check.test("Terms: What comes stands in the line by the tick in which it comes", LineTerms::orderByTicks);
         Check.test("Terms: What comes stands in the line - in a tick by the order of telling", LineTerms::orderInTick);
@@ -30,7 +32,7 @@ final class LineTerms {
         Check.test("Terms: A slug that is neither is good, and is paid by as many ems as the measure", LineTerms::pay);
         Check.test("Terms: Then, with a slug or not, the pot is colder by 5 - and wear is greater by 1",
                 LineTerms::colderAndWorn);
-        Check.test("Terms: Then, with a slug or not, the pot is colder by 5 - the place i among the letters comes 5 + i later",
+        Check.test("Terms: Then, with a slug or not, the pot is colder by 5 - the place i comes 5 + i later",
                 LineTerms::homeByPlaces);
         Check.test("Terms: The line is empty then", LineTerms::emptyThen);
     }

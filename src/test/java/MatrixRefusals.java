@@ -7,7 +7,8 @@ final class MatrixRefusals {
         Check.test("2 throws IllegalArgumentException: no such letter", MatrixRefusals::addMatricesOfNoLetter);
         Check.test("2 throws IllegalArgumentException: 1 to 12", MatrixRefusals::addTooManyAtOnce);
         Check.test("2 throws IllegalStateException: more than 12 in the channel", MatrixRefusals::addTooManyToChannel);
-        Check.test("2 throws IllegalStateException: more than 12, those astray among them", MatrixRefusals::addToAstray);
+        Check.test("2 throws IllegalStateException: more than 12, those astray among them",
+                MatrixRefusals::addToAstray);
         Check.test("2 throws IllegalStateException: more than 60 in all", MatrixRefusals::addTooManyInAll);
         Check.test("3 throws IndexOutOfBoundsException: no such matrix",
                 () -> noMatrix(shop -> shop::letterOf));

@@ -22,7 +22,8 @@ final class MatrixTests {
         Check.test("10 returns those, too, that stay without room", MatrixTests::clearWithoutRoom);
         Check.test("11 returns whether a matrix waits for room", MatrixTests::isJammed);
         Check.test("11 returns true until a tick begins with room", MatrixTests::isJammedUntilTick);
-        Check.test("11 returns true also when a channel was cleared, until a tick begins", MatrixTests::isJammedCleared);
+        Check.test("11 returns true also when a channel was cleared, until a tick begins",
+                MatrixTests::isJammedCleared);
     }
 
     private static void newShop() {

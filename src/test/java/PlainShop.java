@@ -428,7 +428,8 @@ final class PlainShop {
             }
             List<String> taken = words.subList(due, due + many);
             boolean last = due + many == words.size();
-            par.cause = many == 0 ? 'w' : !last && letters(taken) + 6 * (many - 1) < measure ? 'l' : row(taken, last, par);
+            boolean loose = !last && letters(taken) + 6 * (many - 1) < measure;
+            par.cause = many == 0 ? 'w' : loose ? 'l' : row(taken, last, par);
             if (par.cause != '-') {
                 return anew;
             }

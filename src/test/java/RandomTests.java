@@ -67,7 +67,8 @@ final class RandomTests {
     private void prepare() {
         for (char letter : letters.toCharArray()) {
             int many = 1 + random.nextInt(letters.length() < 6 ? 12 : 6);
-            same("addMatrices " + letter + many, () -> shop.addMatrices(letter, many), () -> plain.addMatrices(letter, many));
+            same("addMatrices " + letter + many, () -> shop.addMatrices(letter, many),
+                    () -> plain.addMatrices(letter, many));
         }
         int[] fed = {random.nextInt(200), random.nextInt(200), random.nextInt(501)};
         same("feed", () -> shop.feed(fed[0], fed[1], fed[2]), () -> plain.feed(fed[0], fed[1], fed[2]));

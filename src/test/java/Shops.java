@@ -112,7 +112,7 @@ final class Shops {
         }
     }
 
-    /** A shop at measure 12 with the matrices 0 and 1 of d, both with a wear of 9, so that e holds them, and no others. */
+    /** A shop at measure 12 with just the matrices 0 and 1 of d, both with a wear of 9, so that e holds them. */
     static HotMetalShop astray() {
         HotMetalShop shop = with("d", 2, 12);
         wear(shop, 9);
@@ -120,8 +120,8 @@ final class Shops {
     }
 
     /**
-     * A shop at measure 12 in which 12 of a fill their channel, and the matrix 0 of a waits for room. The matrix 12 of j
-     * waits behind it. It is the tick 6.
+     * A shop at measure 12 in which 12 of a fill their channel, and the matrix 0 of a waits for room. The matrix 12
+     * of j waits behind it. It is the tick 6.
      */
     static HotMetalShop jammed() {
         HotMetalShop shop = with("a", 12, 12);
