@@ -20,6 +20,7 @@ public final class AllTests {
         SettingTerms.run();
         ProofTerms.run();
         ExceptionTerms.run();
+        ReadmeTests.run();
         RandomTests.run();
         DocTests.run();
         Check.end();

@@ -25,6 +25,9 @@ final class SettingTerms {
         Check.test(SETTING + " - what comes home a tick later is not", SettingTerms::comesHomeTooLate);
         Check.test(SETTING + " - it is cast, cools, wears and runs as by sending", SettingTerms::castAsBySending);
         Check.test(LAST + " - with wedges of 2 each", SettingTerms::quadsWithWedgesOfTwo);
+        Check.test(LAST + " - with wedges of 2 each by every measure that has room", SettingTerms::quadsByEveryMeasure);
+        Check.test(LAST + " - the same words sent by hand, last or not", SettingTerms::lastOrNot);
+        Check.test(LAST + " - set anew, as what is last then", SettingTerms::lastWhenSetAnew);
         Check.test(LAST + " - just without room for quads", SettingTerms::noRoomForQuads);
         Check.test(LAST + " - no room for its wedges", SettingTerms::noRoomForWedges);
         Check.test(LAST + " - no other line", SettingTerms::quadsForTheLastAlone);
@@ -236,6 +239,47 @@ final class SettingTerms {
         HotMetalShop wide = composed("a", 60, "a|", '-');
         Check.same("as much metal as the measure", 48, wide.metal('l', 's'));
         Check.same("as many ems", 60, wide.ems());
+    }
+
+    private static void spaces(HotMetalShop shop, int slug, int first, int second) {
+        Check.same("the first wedge of the slug " + slug, first, shop.spaceAt(slug, 1));
+        Check.same("the second wedge of the slug " + slug, second, shop.spaceAt(slug, 3));
+    }
+
+    private static void quadsByEveryMeasure() {
+        // a d a has letters of 9: up to 21, wider wedges could fill the measure as well
+        for (int measure = 13; measure <= 60; measure++) {
+            HotMetalShop shop = composed("a d a", measure, "a d a|", '-');
+            spaces(shop, 0, 2, 2);
+            Check.same("as many ems", measure, shop.ems());
+        }
+        HotMetalShop narrow = composed("a d a", 12, "a d|a|", '-');
+        Check.same("the first line's wedge fills it", 5, narrow.spaceAt(0, 1));
+    }
+
+    private static void lastOrNot() {
+        HotMetalShop sent = Shops.letters(16);
+        Shops.line(sent, "a d a");
+        spaces(sent, sent.send(), 4, 3);
+        HotMetalShop last = composed("a d a", 16, "a d a|", '-');
+        spaces(last, 0, 2, 2);
+        HotMetalShop notLast = composed("a d a dd", 16, "a d a|dd|", '-');
+        spaces(notLast, 0, 4, 3);
+    }
+
+    private static void lastWhenSetAnew() {
+        // the only d still runs when dd is due, so the paragraph ends behind its first line
+        HotMetalShop shop = Shops.with("a", 2, 16);
+        shop.addMatrices('d', 1);
+        seen(shop, "a d a dd", "a d a|", 'e');
+        spaces(shop, 0, 4, 3);
+        shop.tick(10);
+        Check.no("what stands there is marked", shop.mark(0, 0, 'a'));
+        Check.same("lines cast anew", 1, shop.correct(0));
+        Check.text("lines", "a d a|", Shops.paragraph(shop, 0));
+        Check.sign("cause", '-', shop.causeOf(0));
+        spaces(shop, shop.slugAt(0, 0), 2, 2);
+        Check.yes("isSound", shop.isSound());
     }
 
     private static void noRoomForQuads() {
